@@ -36,6 +36,8 @@ public final class Archivepress {
     private static final char WITHDRAWN = 'x';
 
     private static final int NO_LINE = -1;
+    // As the last day of a span: a lifted one is kept as one that ended before the first day.
+    private static final int LIFTED = -1;
 
     private final Lines lineTable = new Lines();
     private final Rules rules = new Rules();
@@ -112,11 +114,11 @@ public final class Archivepress {
         if (!spans.has(span)) {
             throw new IndexOutOfBoundsException("there is no such span");
         }
-        if (!spans.isInForce(span, today)) {
+        if (today > spans.lasts[span]) {
             throw new IllegalStateException("the span was lifted or has ended");
         }
         int hiddenBefore = countHidden();
-        spans.lifted[span] = true;
+        spans.lasts[span] = LIFTED;
         return hiddenBefore - countHidden();
     }
 
@@ -419,16 +421,13 @@ public final class Archivepress {
         int count = 0;
         // Lines of one document have rising indexes in the order of their numbers.
         for (int line = 0; line < lineTable.count; line++) {
-            if (lineTable.documents[line] == document && isFreeFor(asker, line)) {
+            if (lineTable.documents[line] == document && !contains(heldLines[asker], line)
+                    && findProtectedLine(asker, line) == NO_LINE) {
                 give(asker, line);
                 count++;
             }
         }
         return count;
-    }
-
-    private boolean isFreeFor(int asker, int line) {
-        return !contains(heldLines[asker], line) && findProtectedLine(asker, line) == NO_LINE;
     }
 
     private void give(int asker, int line) {
@@ -512,8 +511,7 @@ public final class Archivepress {
         private final int[] documents = new int[SPAN_LIMIT];
         private final int[] firsts = new int[SPAN_LIMIT];
         private final int[] seconds = new int[SPAN_LIMIT];
-        private final int[] lasts = new int[SPAN_LIMIT];
-        final boolean[] lifted = new boolean[SPAN_LIMIT];
+        final int[] lasts = new int[SPAN_LIMIT];
         private int count;
 
         int append(int document, int first, int second, int last) {
@@ -532,13 +530,9 @@ public final class Archivepress {
             return span >= 0 && span < count;
         }
 
-        boolean isInForce(int span, int day) {
-            return !lifted[span] && day <= lasts[span];
-        }
-
         boolean hide(int document, int index, int day) {
             for (int span = 0; span < count; span++) {
-                if (isInForce(span, day) && documents[span] == document
+                if (day <= lasts[span] && documents[span] == document
                         && firsts[span] <= index && index <= seconds[span]) {
                     return true;
                 }
