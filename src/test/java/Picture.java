@@ -1,6 +1,7 @@
 /**
- * All that can be seen of an office, as one text. Taking it changes the office, since values, counts
- * and the price show only in what changing calls return; some 350 calls are made for a full office.
+ * All that can be seen of an office, as one text. Taking it changes the office, since much shows only in
+ * what changing calls return: so there are two pictures, each for an office of its own, and each of less
+ * than 350 calls.
  */
 final class Picture {
     private final Archivepress office;
@@ -10,7 +11,8 @@ final class Picture {
         this.office = office;
     }
 
-    static String of(Archivepress office) {
+    /** What is there, and how many of each kind. */
+    static String ofToday(Archivepress office) {
         Picture picture = new Picture(office);
         picture.seeCounters();
         picture.seeAskers();
@@ -18,6 +20,21 @@ final class Picture {
         picture.seeRequests();
         picture.seeLines();
         picture.seeByChanging();
+        return picture.text.toString();
+    }
+
+    /** What becomes of it when days pass and all requests that wait are answered. */
+    static String ofWhatComes(Archivepress office) {
+        Picture picture = new Picture(office);
+        picture.seeHolders();
+        picture.seeDaysPass(1);
+        picture.seeDaysPass(19);
+        picture.seeDaysPass(1);
+        picture.seeAnswers();
+        picture.seeCounters();
+        picture.seeAskers();
+        picture.seeHolders();
+        picture.seeDaysPass(90);
         return picture.text.toString();
     }
 
@@ -70,6 +87,31 @@ final class Picture {
             see("holders", x -> x.holders(line));
             see("value", x -> x.rescan(line, 0));
         }
+    }
+
+    private void seeHolders() {
+        boolean more = true;
+        for (int i = 0; more; i++) {
+            int line = i;
+            more = see("holders", x -> x.holders(line));
+        }
+    }
+
+    private void seeDaysPass(int days) {
+        see("pass", x -> x.pass(days));
+        see("late", x -> x.late());
+        see("hidden", x -> x.hidden());
+    }
+
+    private void seeAnswers() {
+        for (int i = 0; see("state", stateOf(i)); i++) {
+            int request = i;
+            see("answer", x -> x.answer(request));
+        }
+    }
+
+    private static Check.Call stateOf(int request) {
+        return x -> x.state(request);
     }
 
     private void seeByChanging() {
