@@ -440,14 +440,23 @@ public final class HidingTest {
 
     private static void addJoinForAll() {
         check.promise(13, "Adds a join; what askers hold grows by it at once.");
-        Archivepress x = Offices.withLines(2);
-        x.addDocument();
-        x.addLine(1, 1);
-        for (int asker = 0; asker < 4; asker++) {
-            Offices.give(x, asker, 0);
+        Archivepress all = Offices.withLines(2);
+        all.addDocument();
+        all.addLine(1, 1);
+        for (int asker = 0; asker < 5; asker++) {
+            Offices.give(all, asker, 0);
         }
-        x.addJoin(1, 0, 2);
-        check.same("for all who hold both", 4, x.holders(2));
+        all.addJoin(1, 0, 2);
+        check.same("for all who hold both", 5, all.holders(2));
+        for (int asker = 0; asker < 5; asker++) {
+            Archivepress x = Offices.withLines(2);
+            x.addDocument();
+            x.addLine(1, 1);
+            Offices.give(x, asker, 0);
+            x.addJoin(1, 0, 2);
+            check.same("for asker " + asker, true, x.holds(asker, 2));
+            check.same("and for nobody else", 1, x.holders(2));
+        }
         Archivepress none = Offices.withLines(3);
         none.addJoin(0, 1, 2);
         check.same("for nobody who holds nothing", 0, none.holders(2));

@@ -476,6 +476,13 @@ public final class TermsTest {
         x.addRule(10, 10, 9);
         x.lift(0);
         Rows.rowIs(check, "if a rule hides it, not by the join", "r", x, 0, 0);
+        x.addSpan(0, 3, 3, 9);
+        x.addJoin(3, 5, 1);
+        x.addRule(20, 20, 9);
+        Rows.rowIs(check, "if a span hides it, not by the join that tells a lower line", "s", x, 0, 3);
+        x.addRule(50, 50, 9);
+        x.addJoin(4, 5, 3);
+        Rows.rowIs(check, "if a rule hides it, not by the join that tells a lower line", "r", x, 0, 4);
         Archivepress held = Offices.withKey();
         held.addDocument();
         held.addLine(2, 7);
